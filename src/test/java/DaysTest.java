@@ -13,6 +13,7 @@ public final class DaysTest {
         now();
         ahead();
         sings();
+        theFarthest();
         together();
         rest();
         when();
@@ -216,6 +217,24 @@ public final class DaysTest {
         y.singer(0, 0);
         y.change(0, 8, 99);
         due.is("behind a long wait", y.sings(0), 99);
+    }
+
+    /** Eight in a chain, 43 days from one's beginning to the next one's. */
+    private static void theFarthest() {
+        LavenderParts x = new LavenderParts();
+        for (int i = 0; i < 8; i++) {
+            x.singer(4, 0);
+            x.change(i, 2, i - 1);
+            x.change(i, 4, 120);
+            x.change(i, 5, 5);
+        }
+        x.change(0, 8, 99);
+        due.is("who waits", x.now(2), 1);
+        due.is("sings behind 400 days", x.sings(7), 400);
+        due.is("sold something behind 400 days", x.when(7, 1), 400);
+        x.change(6, 5, 6);
+        due.is("sings behind 401 days", x.sings(7), Due.NONE);
+        due.is("sold something behind 401 days", x.when(7, 1), Due.NONE);
     }
 
     private static void together() {

@@ -42,6 +42,9 @@ public final class HowToSingTest {
         due.is("behind the last's", x.beginFor(1, 20), 5);
         x.change(1, 2, 0);
         due.is("one who answers begins anywhere", x.beginFor(1, 20), 0);
+        x.change(1, 2, -1);
+        x.change(0, 7, 99);
+        due.is("as late as can be", x.beginFor(1, 60), 59);
     }
 
     private static void answerFor() {
@@ -140,6 +143,13 @@ public final class HowToSingTest {
         due.is("one, not the two who answer", x.hush(5), 4);
         due.is("nobody sings yet", x.hush(1), 0);
         due.is("all the same", x.hush(41), 4);
+        LavenderParts y = new LavenderParts();
+        for (int i = 0; i < 8; i++) {
+            y.singer(i % 7, i);
+            y.strike(i);
+            y.change(i, 7, 9);
+        }
+        due.is("all of them", y.hush(1), 255);
     }
 
     private static void longest() {

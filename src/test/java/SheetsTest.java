@@ -69,11 +69,14 @@ public final class SheetsTest {
         due.is("n 41", x.sheet(0, 8, 41), Due.BEYOND);
         due.is("n 41 with bits 0", x.sheet(0, 0, 41), Due.BEYOND);
         due.is("it stays", x.write(0, 39, 5), 1);
+        x.write(0, 0, 5);
+        x.write(0, 1, 5);
         x.sheet(0, 8, 40);
         x.singer(0, 7);
-        x.load(0);
-        due.is("all are 0", x.of(0, 1), 0);
-        due.is("all forty are", x.copy(0, 39, 0, 0, 1), 1);
+        x.singer(0, 7);
+        due.is("the first are 0", x.judge(0), 3);
+        x.copy(0, 39, 0, 1, 1);
+        due.is("and so is the last", x.judge(0), 3);
     }
 
     private static void write() {

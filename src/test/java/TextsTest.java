@@ -84,6 +84,8 @@ public final class TextsTest {
         fault("lasT", 0);
         fault("last T", 5);
         fault("lastbegins 3", 0);
+        fault("lastz", 0);
+        fault("cast", 0);
         fault("last, child", 4);
         fault("last child", 5);
         fault("last;;child", 5);
