@@ -8,12 +8,26 @@ final class Due {
     static final int MISSING = -1000006;
     static final int SIZE = -1000007;
 
+    /** Far outside of every range, and where a careless sum would run over. */
+    static final int LEAST = Integer.MIN_VALUE;
+    static final int MOST = Integer.MAX_VALUE;
+
     private int wrong = 0;
+    private String where = "";
+
+    /** Names the promise, and the document's words, that the answers from here on hold. */
+    void promise(int number, String words) {
+        where = "promise " + number + ", \"" + words + "\": ";
+        if (!Document.says(number, words)) {
+            wrong++;
+            System.out.println(where + "the document doesn't say so");
+        }
+    }
 
     void is(String call, long got, long want) {
         if (got != want) {
             wrong++;
-            System.out.println(call + " answered " + got + ", due is " + want);
+            System.out.println(where + call + " answered " + got + ", due is " + want);
         }
     }
 
@@ -39,9 +53,31 @@ final class Due {
 
     /** Lays a sheet of 32 bits with these numbers. */
     static void lay(LavenderParts x, int s, int... numbers) {
-        x.sheet(s, 32, numbers.length);
+        layOfBits(x, s, 32, numbers);
+    }
+
+    static void layOfBits(LavenderParts x, int s, int bits, int... numbers) {
+        x.sheet(s, bits, numbers.length);
         for (int i = 0; i < numbers.length; i++) {
             x.write(s, i, numbers[i]);
         }
+    }
+
+    /** A square with as many plain singers, all as at first. */
+    static LavenderParts plain(int singers) {
+        LavenderParts x = new LavenderParts();
+        for (int i = 0; i < singers; i++) {
+            x.singer(0, 0);
+        }
+        return x;
+    }
+
+    /** A square with one of each kind, whose number is her kind. */
+    static LavenderParts oneOfEach() {
+        LavenderParts x = new LavenderParts();
+        for (int kind = 0; kind < 7; kind++) {
+            x.singer(kind, kind);
+        }
+        return x;
     }
 }
