@@ -75,6 +75,9 @@ public final class HowToSingEdgesTest {
         due.is("to the day on which she ends", x.beginFor(1, 5), 4);
         due.is("to the day ahead of it", x.beginFor(1, 4), 4);
         due.is("to the third day", x.beginFor(1, 3), 3);
+        due.promise(14, "a DATE on which she BEGINS (0 to 59; 0 at first)");
+        x.change(0, 7, 99);
+        due.is("best never, so on the last date", x.beginFor(1, 60), 59);
         x.change(1, 2, 0);
         due.is("one who answers", x.beginFor(1, 6), 0);
     }

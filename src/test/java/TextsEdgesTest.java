@@ -223,6 +223,10 @@ public final class TextsEdgesTest {
     private static void promise28OtherWords() {
         due.promise(28, "the place (from 0) of the first byte of the first TOKEN that can't stand there");
         text("cat", -1);
+        text("cast", -1);
+        text("lost", -1);
+        text("lass", -1);
+        text("last pegins 5", -6);
         text("begins 5", -1);
         text("voice", -1);
         text("5", -1);
@@ -245,6 +249,10 @@ public final class TextsEdgesTest {
         text("lastbegins 5", -1);
         text("las", -1);
         text("lasts", -1);
+        text("lasta", -1);
+        text("lastz", -1);
+        text("alast", -1);
+        text("zlast", -1);
         text("singers", -1);
         text("sing", -1);
         text("sings", -6);
