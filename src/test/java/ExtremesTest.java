@@ -7,8 +7,8 @@ import java.util.Comparator;
 import java.util.List;
 
 /**
- * All promises: every call with every mixture of numbers at the ends of the ranges and of int itself
- * never throws and answers as the model does; on a new square, on one with somebody, on a full one.
+ * All promises: every call with every mixture of NUMBERS doesn't throw and answers as the model does;
+ * on a new square, on one with somebody, on a full one. The other ends of ranges are in ..EdgesTest.
  */
 public final class ExtremesTest {
     private static final Due due = new Due();
